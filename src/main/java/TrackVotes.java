@@ -89,7 +89,7 @@ public final class TrackVotes {
         // The text works on a copy, so that a fault leaves nothing of it behind.
         spare.takeOver(state);
         int count = items.readText(tape, spare);
-        latestFault = tape.fault();
+        latestFault = tape.faultPlace();
         tape.cutTo(0);
         if (count == NONE) {
             return NONE;
@@ -105,7 +105,7 @@ public final class TrackVotes {
         latestFault = NONE;
         if (tape.length() > 0) {
             reader.readFrom(tape.bytes(), tape.length());
-            latestFault = reader.fault();
+            latestFault = reader.faultPlace();
             count = reader.things();
         }
         if (latestFault == NONE) {
@@ -118,7 +118,7 @@ public final class TrackVotes {
 
     public int acts() {
         int count = items.readActs(tape);
-        latestFault = tape.fault();
+        latestFault = tape.faultPlace();
         tape.cutTo(0);
         if (count == NONE) {
             return NONE;
@@ -216,7 +216,7 @@ public final class TrackVotes {
             case 4:
                 return state.counts(h) ? 1 : 0;
             case 5:
-                return seen().trackOf(h);
+                return picture.look(state).trackOf(h);
             default:
                 return NOTHING;
         }
@@ -236,7 +236,7 @@ public final class TrackVotes {
             case 3:
                 return state.countingHitsLeftBy(p);
             case 4:
-                return seen().foundOf(p, seen().tracks());
+                return picture.look(state).foundOf(p, picture.tracks());
             default:
                 return NOTHING;
         }
@@ -262,24 +262,24 @@ public final class TrackVotes {
     public int many(int what) {
         switch (what) {
             case 0:
-                return seen().tracks();
+                return thing('n');
             case 1:
-                return seenGhosts().count();
+                return thing('g');
             case 2:
-                return seen().vertices();
+                return thing('v');
             case 3:
-                return state.countingHits() - seen().hitsOnTracks();
+                return thing('u');
             case 4:
-                return seen().mostVotes();
+                return thing('m');
             case 5:
-                return seen().greatestVertex();
+                return thing('o');
             default:
                 return NONE;
         }
     }
 
     public int track(int i, int what) {
-        Track track = seen().trackAt(i);
+        Track track = picture.look(state).trackAt(i);
         if (track == null) {
             return NOTHING;
         }
@@ -299,21 +299,21 @@ public final class TrackVotes {
             case 6:
                 return track.smear;
             case 7:
-                return seen().mostLeftOn(i);
+                return picture.mostLeftOn(i);
             case 8:
-                return seen().purestOn(i);
+                return picture.purestOn(i);
             default:
                 return NOTHING;
         }
     }
 
     public int of(int i, int l) {
-        Track track = seen().trackAt(i);
+        Track track = picture.look(state).trackAt(i);
         return track == null || !state.hasLayer(l) ? NONE : track.hitOn[l];
     }
 
     public long fit(int i, int what) {
-        Track track = seen().trackAt(i);
+        Track track = picture.look(state).trackAt(i);
         if (track == null) {
             return NO_FRACTION;
         }
@@ -336,14 +336,14 @@ public final class TrackVotes {
     }
 
     public int vertex(int v, int what) {
-        if (v < 0 || v >= seen().vertices()) {
+        if (v < 0 || v >= picture.look(state).vertices()) {
             return NOTHING;
         }
         switch (what) {
             case 0:
-                return seen().tracksIn(v);
+                return picture.tracksIn(v);
             case 1:
-                return seen().placeOf(v);
+                return picture.placeOf(v);
             default:
                 return NOTHING;
         }
@@ -366,21 +366,21 @@ public final class TrackVotes {
     public int thing(int letter) {
         switch (letter) {
             case 'n':
-                return many(0);
+                return picture.look(state).tracks();
             case 'h':
                 return state.countingHits();
             case 'v':
-                return many(2);
+                return picture.look(state).vertices();
             case 'g':
-                return many(1);
+                return ghosts.look(state, picture.look(state)).count();
             case 'm':
-                return many(4);
+                return picture.look(state).mostVotes();
             case 'l':
                 return state.liveLayers();
             case 'u':
-                return many(3);
+                return state.countingHits() - picture.look(state).hitsOnTracks();
             case 'o':
-                return many(5);
+                return picture.look(state).greatestVertex();
             default:
                 return NONE;
         }
@@ -391,19 +391,19 @@ public final class TrackVotes {
     public int work() {
         int bends = 2 * state.setting(BENDS) + 1;
         int slopes = 2 * state.setting(SLOPES) + 1;
-        return state.countingHits() * bends * slopes + 10 * seen().tracks();
+        return state.countingHits() * bends * slopes + 10 * picture.look(state).tracks();
     }
 
-    private int ticksOfWork() {
-        int speed = Math.max(1, state.setting(SPEED));
-        return Math.max(1, (work() + speed - 1) / speed);
+    private static int ticksFor(int work, int speed) {
+        return speed < 1 ? 1 : Math.max(1, (work + speed - 1) / speed);
     }
 
     public int queue(int n, int period, int w, int b, int what) {
         if (!mayQueue(n, period, b) || !within(w, 1, MOST_WORKERS)) {
             return NONE;
         }
-        waiting.run(n, period, w, b, ticksOfWork(), state.setting(LIMIT));
+        int ticks = ticksFor(work(), state.setting(SPEED));
+        waiting.run(n, period, w, b, ticks, state.setting(LIMIT));
         switch (what) {
             case 0:
                 return waiting.lost;
@@ -422,7 +422,7 @@ public final class TrackVotes {
         if (!mayQueue(n, period, b)) {
             return NONE;
         }
-        int ticks = ticksOfWork();
+        int ticks = ticksFor(work(), state.setting(SPEED));
         for (int w = 1; w <= MOST_WORKERS; w++) {
             waiting.run(n, period, w, b, ticks, state.setting(LIMIT));
             if (waiting.lost == 0 && waiting.late == 0) {
@@ -439,26 +439,18 @@ public final class TrackVotes {
     // ---- what layers and thresholds are worth
 
     public int worth(int l) {
-        return state.hasLayer(l) ? seen().worthOf(state, l) : NOTHING;
+        return state.hasLayer(l) ? picture.look(state).worthOf(state, l) : NOTHING;
     }
 
     public int bestNeed(int what) {
         if (!within(what, 0, 2)) {
             return NONE;
         }
-        int best = LEAST_NEED;
-        int most = seen().foundBy(LEAST_NEED) - seen().loneBy(LEAST_NEED);
-        for (int n = LEAST_NEED + 1; n <= MOST_NEED; n++) {
-            int gain = seen().foundBy(n) - seen().loneBy(n);
-            if (gain > most) {
-                most = gain;
-                best = n;
-            }
-        }
+        int best = picture.look(state).theBestNeed();
         if (what == 0) {
             return best;
         }
-        return what == 1 ? seen().foundBy(best) : seen().loneBy(best);
+        return what == 1 ? picture.foundBy(best) : picture.loneBy(best);
     }
 
     // ---- deeds
@@ -506,8 +498,8 @@ public final class TrackVotes {
     // ---- how far off
 
     public long cross(int i, int j, int what) {
-        Track one = seen().trackAt(i);
-        Track other = seen().trackAt(j);
+        Track one = picture.look(state).trackAt(i);
+        Track other = picture.trackAt(j);
         if (one == null || other == null || i == j || !within(what, 0, 1)) {
             return NO_FRACTION;
         }
@@ -524,12 +516,12 @@ public final class TrackVotes {
     }
 
     public int predicted(int i, int l) {
-        Track track = seen().trackAt(i);
+        Track track = picture.look(state).trackAt(i);
         return track == null || !state.hasLayer(l) ? NOTHING : track.heightAt(state, l);
     }
 
     public int missing(int i) {
-        Track track = seen().trackAt(i);
+        Track track = picture.look(state).trackAt(i);
         if (track == null) {
             return NONE;
         }
@@ -543,7 +535,7 @@ public final class TrackVotes {
     }
 
     public int nearest(int i, int l) {
-        Track track = seen().trackAt(i);
+        Track track = picture.look(state).trackAt(i);
         if (track == null || !state.hasLayer(l)) {
             return NONE;
         }
@@ -551,7 +543,7 @@ public final class TrackVotes {
         int best = NOBODY;
         int least = 0;
         for (int h = 0; h < state.hits; h++) {
-            if (state.hitLayer[h] != l || !state.counts(h) || seen().trackOf(h) >= 0) {
+            if (state.hitLayer[h] != l || !state.counts(h) || picture.trackOf(h) >= 0) {
                 continue;
             }
             int away = Math.abs(state.hitY[h] - height);
@@ -569,8 +561,9 @@ public final class TrackVotes {
         }
         int count = 0;
         int sum = 0;
-        for (int i = 0; i < seen().tracks(); i++) {
-            Track track = seen().trackAt(i);
+        int tracks = picture.look(state).tracks();
+        for (int i = 0; i < tracks; i++) {
+            Track track = picture.trackAt(i);
             if (track != null && track.hitOn[l] >= 0) {
                 count++;
                 sum += state.hitY[track.hitOn[l]] - track.heightAt(state, l);
@@ -602,7 +595,7 @@ public final class TrackVotes {
         if (!within(i, 0, MOST_GHOSTS - 1) || !within(what, 0, 3)) {
             return NOTHING;
         }
-        return seenGhosts().ofPlace(i, what);
+        return ghosts.look(state, picture.look(state)).ofPlace(i, what);
     }
 
     public int window(int ticks, int what) {
@@ -697,20 +690,6 @@ public final class TrackVotes {
         ghosts.forget();
     }
 
-    private Picture seen() {
-        if (!picture.isKnown()) {
-            picture.draw(state);
-        }
-        return picture;
-    }
-
-    private Ghosts seenGhosts() {
-        if (!ghosts.isKnown()) {
-            ghosts.gather(state, seen());
-        }
-        return ghosts;
-    }
-
     // ---- numbers
 
     private static boolean within(int number, int least, int most) {
@@ -718,7 +697,7 @@ public final class TrackVotes {
     }
 
     private static boolean isHeight(int y) {
-        return within(y, -HIGHEST, HIGHEST);
+        return y >= -HIGHEST && y <= HIGHEST;
     }
 
     private static boolean isDigit(int sign) {
@@ -1037,7 +1016,7 @@ public final class TrackVotes {
             fault = NONE;
         }
 
-        int fault() {
+        int faultPlace() {
             return fault;
         }
 
@@ -1317,7 +1296,7 @@ public final class TrackVotes {
             }
         }
 
-        int fault() {
+        int faultPlace() {
             return fault;
         }
 
@@ -1494,28 +1473,19 @@ public final class TrackVotes {
         /** In the order in which like cells are taken: by |k|, |t|, k, t. */
         private void listShapes(int mostBend, int mostSlope) {
             shapes = 0;
-            for (int k = 0; k <= Math.min(mostBend, MOST_BENDS); k++) {
-                for (int t = 0; t <= Math.min(mostSlope, MOST_SLOPES); t++) {
-                    listSlopes(-k, t);
-                    if (k > 0) {
-                        listSlopes(k, t);
+            for (int k = 0; k <= mostBend && k <= MOST_BENDS; k++) {
+                for (int t = 0; t <= mostSlope && t <= MOST_SLOPES; t++) {
+                    for (int side = 0; side < 4; side++) {
+                        boolean bendAgain = side >= 2 && k == 0;
+                        boolean slopeAgain = side % 2 == 1 && t == 0;
+                        if (bendAgain || slopeAgain || shapes >= MOST_SHAPES) {
+                            continue;
+                        }
+                        bends[shapes] = side < 2 ? -k : k;
+                        slopes[shapes] = side % 2 == 0 ? -t : t;
+                        shapes++;
                     }
                 }
-            }
-        }
-
-        private void listSlopes(int k, int t) {
-            listShape(k, -t);
-            if (t > 0) {
-                listShape(k, t);
-            }
-        }
-
-        private void listShape(int k, int t) {
-            if (shapes < MOST_SHAPES) {
-                bends[shapes] = k;
-                slopes[shapes] = t;
-                shapes++;
             }
         }
 
@@ -1563,21 +1533,18 @@ public final class TrackVotes {
             for (int i = 0; i < voters; i++) {
                 int l = voterLayer[i];
                 int flat = voterY[i] - bendLifts[bendRow + l] - slopeLifts[slopeRow + l];
-                voteFor(Math.floorDiv(flat, width), 1 << l);
-            }
-        }
-
-        private void voteFor(int cell, int layer) {
-            int slot = slotOf(cell);
-            if ((slotLayers[slot] & layer) != 0) {
-                return;
-            }
-            slotLayers[slot] |= layer;
-            slotVotes[slot]++;
-            int votes = slotVotes[slot];
-            if (votes > bestVotes || (votes == bestVotes && cell < bestCell)) {
-                bestVotes = votes;
-                bestCell = cell;
+                int cell = Math.floorDiv(flat, width);
+                int slot = slotOf(cell);
+                if ((slotLayers[slot] & 1 << l) != 0) {
+                    continue;
+                }
+                slotLayers[slot] |= 1 << l;
+                slotVotes[slot]++;
+                int votes = slotVotes[slot];
+                if (votes > bestVotes || (votes == bestVotes && cell < bestCell)) {
+                    bestVotes = votes;
+                    bestCell = cell;
+                }
             }
         }
 
@@ -1711,10 +1678,9 @@ public final class TrackVotes {
             upperSlope = n * sumXY - sumX * sumY;
             upperStart = sumY * sumXX - sumX * sumXY;
             upperOff = lower * sumYY - upperStart * sumY - upperSlope * sumXY;
-            measureSmear(state);
         }
 
-        private void measureSmear(State state) {
+        void measureSmear(State state) {
             long most = 0;
             for (int l = 0; l < state.layers; l++) {
                 if (hitOn[l] >= 0) {
@@ -1824,15 +1790,15 @@ public final class TrackVotes {
         private final boolean[] worthKnown = new boolean[MOST_LAYERS];
         private final int[] worth = new int[MOST_LAYERS];
 
-        boolean isKnown() {
-            return known;
-        }
-
         void forget() {
             known = false;
         }
 
-        void draw(State state) {
+        /** Itself, drawn anew if the state has changed: each call that needs it begins so. */
+        Picture look(State state) {
+            if (known) {
+                return this;
+            }
             known = true;
             need = state.setting(NEED);
             particles = state.particles;
@@ -1842,8 +1808,10 @@ public final class TrackVotes {
                 worthKnown[l] = false;
             }
             shareHits(state);
-            orderTracks(state);
+            drawLines(state);
+            orderTracks();
             joinVertices(state.setting(GAP));
+            return this;
         }
 
         private int tracksBy(int least) {
@@ -1888,15 +1856,20 @@ public final class TrackVotes {
             }
         }
 
-        private void orderTracks(State state) {
+        private void drawLines(State state) {
             for (int i = 0; i < tracks; i++) {
                 Track track = finder.trackAt(i);
-                if (track == null) {
-                    continue;
+                if (track != null) {
+                    track.drawLine(state);
+                    track.measureSmear(state);
                 }
-                track.drawLine(state);
+            }
+        }
+
+        private void orderTracks() {
+            for (int i = 0; i < tracks; i++) {
                 int place = i;
-                while (place > 0 && startOf(order[place - 1]) > track.flooredStart()) {
+                while (place > 0 && startOf(order[place - 1]) > startOf(i)) {
                     order[place] = order[place - 1];
                     place--;
                 }
@@ -2038,6 +2011,20 @@ public final class TrackVotes {
             return first - Integer.bitCount(taken);
         }
 
+        /** The need by which most is found, less what is found of none; of like ones the least. */
+        int theBestNeed() {
+            int best = LEAST_NEED;
+            int most = foundBy(LEAST_NEED) - loneBy(LEAST_NEED);
+            for (int n = LEAST_NEED + 1; n <= MOST_NEED; n++) {
+                int gain = foundBy(n) - loneBy(n);
+                if (gain > most) {
+                    most = gain;
+                    best = n;
+                }
+            }
+            return best;
+        }
+
         int worthOf(State state, int l) {
             if (!state.hasLayer(l) || !state.alive[l]) {
                 return 0;
@@ -2063,10 +2050,6 @@ public final class TrackVotes {
         private final int[] sortedCell = new int[MOST_HITS];
         private final int[] sortedVotes = new int[MOST_HITS];
 
-        boolean isKnown() {
-            return known;
-        }
-
         void forget() {
             known = false;
         }
@@ -2075,8 +2058,16 @@ public final class TrackVotes {
             return count;
         }
 
-        void gather(State state, Picture picture) {
-            known = true;
+        /** Itself, gathered anew if the state has changed. */
+        Ghosts look(State state, Picture picture) {
+            if (!known) {
+                gather(state, picture);
+                known = true;
+            }
+            return this;
+        }
+
+        private void gather(State state, Picture picture) {
             count = 0;
             for (int votes = 0; votes <= MOST_LAYERS; votes++) {
                 listed[votes] = 0;
