@@ -154,6 +154,11 @@ final class Checks {
       for (int i = 0; i < 9; i++, calls++) out.append(' ').append(x.track(t, i));
       for (int i = 0; i < 6; i++, calls++) out.append(' ').append(x.fit(t, i));
     }
+    for (int v = 0; v < x.many(2); v++, calls += 2) out.append("\n  vertex ").append(x.vertex(v, 0)).append(' ').append(x.vertex(v, 1));
+    for (int g = 0; g < 2; g++) {
+      out.append("\n  ghost");
+      for (int i = 0; i < 4; i++, calls++) out.append(' ').append(x.ghost(g, i));
+    }
     out.append("\n  many");
     for (int i = 0; i < 6; i++, calls++) out.append(' ').append(x.many(i));
     out.append(" work ").append(x.work()).append(" yes ").append(x.yes());

@@ -22,6 +22,7 @@ public final class DeedEdgesTest {
     whatIsNone();
     eightDeeds();
     undoOfEach();
+    seenAnew();
     keepAndRestore();
     keptStays();
     write();
@@ -440,6 +441,33 @@ public final class DeedEdgesTest {
       Checks.due("undo()", x.undo(), 5);
       Checks.same("undo() of " + names[i], Checks.all(x), before);
     }
+  }
+
+  /** What was worked out ahead of a DEED is worked out anew behind it. */
+  private static void seenAnew() {
+    Checks.says("Nothing is promised beyond the answers and state changes described above");
+    for (int i = 0; i < 12; i++) {
+      TrackVotes x = Checks.scene();
+      TrackVotes y = Checks.scene();
+      look(x);
+      Checks.due("deed " + i, deed(x, i), true);
+      Checks.due("deed " + i, deed(y, i), true);
+      Checks.same("deed " + i, Checks.all(x), Checks.all(y));
+      TrackVotes z = Checks.scene();
+      Checks.due("deed " + i, deed(z, i), true);
+      look(z);
+      z.undo();
+      Checks.same("undo() of deed " + i, Checks.all(z), Checks.all(Checks.scene()));
+    }
+  }
+
+  private static void look(TrackVotes x) {
+    for (int i = 0; i < 6; i++) x.many(i);
+    for (int l = 0; l < 4; l++) x.worth(l);
+    x.ghost(0, 0);
+    x.vertex(0, 1);
+    x.yes();
+    x.bestNeed(0);
   }
 
   private static boolean deed(TrackVotes x, int which) {

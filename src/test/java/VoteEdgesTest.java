@@ -14,6 +14,7 @@ public final class VoteEdgesTest {
     cells();
     votesAsked();
     likeCells();
+    farthestCells();
     need();
     nearestToTheMiddle();
     twentyTracks();
@@ -250,17 +251,57 @@ public final class VoteEdgesTest {
   // ---- TRACKS
 
   /** With 0 on the first layer: bend k, slope t join 8 k and 2 t on the second. */
-  private static TrackVotes joined(int... heights) {
-    StringBuilder text = new StringBuilder("s1,1,1,2;r100;r300;h0,0,0;");
+  private static String joined(int... heights) {
+    StringBuilder text = new StringBuilder("s1,1,1,2;r100;r300;r400;h0,0,0;");
     for (int y : heights) text.append("h1,").append(y).append(",0;");
-    return Checks.with(text.toString());
+    return text.toString();
   }
 
-  private static void cellOf(TrackVotes x, int k, int t, int hit) {
-    Checks.due("TRACKS", x.many(0), 1);
-    Checks.due("bend", x.track(0, 0), k);
-    Checks.due("slope", x.track(0, 1), t);
-    Checks.due("its HIT", x.of(0, 1), hit);
+  /** Alone, and with a HIT on a third layer that is in none of these cells. */
+  private static void cellOf(String text, int k, int t, int hit) {
+    for (String far : new String[] {"", "h2,9999,0;"}) {
+      TrackVotes x = Checks.with(text + far);
+      Checks.due("TRACKS", x.many(0), 1);
+      Checks.due("bend", x.track(0, 0), k);
+      Checks.due("slope", x.track(0, 1), t);
+      Checks.due("its HIT", x.of(0, 1), hit);
+    }
+  }
+
+  private static void farthestCells() {
+    Checks.says("CELLS: bend k (-BENDS to BENDS), slope t (-SLOPES to SLOPES), b");
+    for (int k : new int[] {-3, 3}) {
+      for (int t : new int[] {-20, 20}) {
+        // In cells of 1 no other bend or slope has all four.
+        TrackVotes x = Checks.with("s3,20,1,4;r100;r200;r300;r400;p7," + t + "," + k + ";");
+        Checks.due("TRACKS", x.many(0), 1);
+        Checks.due("bend", x.track(0, 0), k);
+        Checks.due("slope", x.track(0, 1), t);
+        Checks.due("b", x.track(0, 2), 7);
+        Checks.due("no GHOST", x.many(1), 0);
+        fit(x, 0, 7, 1, t / 20, 5, 0, 1);
+        Checks.text(x, "s3,19,1,4;");
+        Checks.due("beyond SLOPES", x.many(0), 0);
+        Checks.text(x, "s2,20,1,4;");
+        Checks.due("beyond BENDS", x.many(0), 0);
+      }
+    }
+    TrackVotes y = Checks.with("s3,20,500,2;r1;r2;r3;r4;r5;r6;r7;r8;p250,0,0;");
+    Checks.due("7 times 41 less the TRACK's", y.many(1), 286);
+    Checks.due("VOTES", y.ghost(19, 3), 8);
+    Checks.due("WORK", y.work(), 8 * 287 + 10);
+    Checks.text(y, "s0,0,500,2;");
+    Checks.due("one CELL alone", y.many(1), 0);
+    Checks.says("a HIT votes for the CELL k, t, b");
+    // Cells that are far apart are not one.
+    for (int far : new int[] {1, 64, 127, 128, 129, 256, 512, 1024, 4096, 8192}) {
+      TrackVotes z = Checks.with("s0,0,1,2;r100;r300;h0,0,0;h1," + far + ",0;");
+      Checks.due("0 and " + far, z.many(0), 0);
+      TrackVotes w = Checks.with("s0,0,1,2;r100;r300;h0,0,0;h0," + far + ",0;h0," + -far + ",0;h1," + -far + ",0;h1," + far + ",0;");
+      Checks.due("those that are", w.many(0), 2);
+      Checks.due("the lesser", w.track(0, 2), -far);
+      Checks.due("the greater", w.track(1, 2), far);
+    }
   }
 
   private static void likeCells() {
@@ -299,7 +340,20 @@ public final class VoteEdgesTest {
       }
     }
     Checks.says("VOTES of a CELL: on how many LAYERS HITS vote for it.");
-    Checks.due("two HITS on one LAYER", Checks.with(FLAT + "h0,5,0;h0,5,0;").many(0), 0);
+    for (int l = 0; l < 2; l++) {
+      TrackVotes y = Checks.with(FLAT + "h" + l + ",5,0;h" + l + ",5,0;h" + l + ",6,0;");
+      Checks.due("three HITS on one LAYER", y.many(0), 0);
+      Checks.due("no GHOST", y.many(1), 0);
+    }
+    TrackVotes z = Checks.with(FLAT + "r400;h1,55,0;h1,55,0;h1,55,0;h0,5,0;h2,5,0;");
+    Checks.due("two LAYERS, not three HITS", z.track(0, 2), 0);
+    Checks.due("no other", z.many(0), 1);
+    Checks.says("5 its TRACK (-2: none)");
+    Checks.due("its TRACK", z.hit(3, 5), 0);
+    z.need(3);
+    Checks.due("by a greater NEED", z.hit(3, 5), -2);
+    Checks.due("HITS of no TRACK", z.many(3), 5);
+    Checks.says("the CELL with most VOTES (NEED at least)");
     Checks.due("nothing", new TrackVotes().many(0), 0);
   }
 
@@ -336,6 +390,8 @@ public final class VoteEdgesTest {
     for (int first : new int[] {middle - 1, middle + 1}) {
       TrackVotes x = Checks.with("s0,0," + width + ",2;r100;r300;h1," + low + ",0;h0," + first + ",0;h0," + middle + ",0;");
       Checks.due("WIDTH " + width + ", " + middle + " behind " + first, x.of(0, 0), 2);
+      TrackVotes y = Checks.with("s0,0," + width + ",2;r100;r300;h1," + low + ",0;h0," + middle + ",0;h0," + first + ",0;");
+      Checks.due("WIDTH " + width + ", " + middle + " ahead of " + first, y.of(0, 0), 1);
     }
   }
 
@@ -428,6 +484,25 @@ public final class VoteEdgesTest {
       Checks.due("the lesser b", w.ghost(i, 2), i % 2);
       Checks.due("VOTES", w.ghost(i, 3), 2);
     }
+    Checks.says("the first 20");
+    // 7 slopes join three, 35 more two: 6 and 35 ghosts.
+    TrackVotes u = Checks.with("s0,3,500,2;r1;r2;r3;h0,250,0;h1,250,0;h2,250,0;h0,750,0;h1,750,0;h1,1750,0;h0,1750,0;h1,1250,0;h0,1250,0;h0,-250,0;h1,-250,0;h0,2250,0;h1,2250,0;");
+    Checks.due("TRACKS", u.many(0), 6);
+    Checks.due("GHOSTS", u.many(1), 36);
+    int[] bs = {-1, 1, 2, 3, 4};
+    for (int i = 0; i < 6; i++) {
+      Checks.due("three VOTES", u.ghost(i, 3), 3);
+      Checks.due("their b", u.ghost(i, 2), 0);
+      Checks.due("their slope", u.ghost(i, 1), i % 2 == 0 ? -1 - i / 2 : 1 + i / 2);
+    }
+    for (int i = 6; i < 20; i++) {
+      int slope = (i - 6) / 5;
+      Checks.due("two VOTES", u.ghost(i, 3), 2);
+      Checks.due("the lesser b", u.ghost(i, 2), bs[(i - 6) % 5]);
+      Checks.due("their slope", u.ghost(i, 1), slope % 2 == 0 ? -1 - slope / 2 : 1 + slope / 2);
+    }
+    for (int i = 20; i < 36; i += 15) for (int what = 0; what < 4; what++) Checks.due("ghost(" + i + ", " + what + ")", u.ghost(i, what), -100000);
+    Checks.says("GHOSTS in the order of CELLS (as TRACKS are taken: most VOTES first, and so on)");
     // Of slope 2 all three vote for one cell, of slopes 0 and 1 two.
     TrackVotes v = Checks.with("s0,2,6,2;r100;r200;r300;h0,0,0;h1,0,0;h2,5,0;");
     Checks.due("the TRACK's VOTES", v.track(0, 3), 3);
@@ -564,6 +639,11 @@ public final class VoteEdgesTest {
       Checks.due("SMEAR of " + -n, y.track(0, 6), due[n]);
     }
     Checks.due("of two HITS", Checks.with(FLAT + "h0,0,0;h1,9,0;").track(0, 6), 0);
+    Checks.due("LAYERS without a HIT aside", Checks.with(FLAT + "r400;h0,505,0;h1,505,0;").track(0, 6), 0);
+    // 9 and seven times 0 at 1 to 8: the line is at 15/4, falling by 3/4: the first is off by 21/4.
+    String eight = "s0,0,10,8;r1;r2;r3;r4;r5;r6;r7;r8;";
+    Checks.due("the first is most", Checks.with(eight + "h0,9,0;h1,0,0;h2,0,0;h3,0,0;h4,0,0;h5,0,0;h6,0,0;h7,0,0;").track(0, 6), 5);
+    Checks.due("the last is most", Checks.with(eight + "h0,0,0;h1,0,0;h2,0,0;h3,0,0;h4,0,0;h5,0,0;h6,0,0;h7,9,0;").track(0, 6), 5);
     TrackVotes z = Checks.with("s1,0,1,3;r150;r250;r350;h0,-3,0;h1,-7,0;h2,-13,0;");
     Checks.due("less the bend", z.track(0, 6), 0);
   }
@@ -615,6 +695,21 @@ public final class VoteEdgesTest {
     Checks.due("A floored", v.track(1, 5), 13);
     Checks.due("its VERTEX", v.track(0, 4), 0);
     Checks.due("its VERTEX", v.track(1, 4), 1);
+    // Taken by their VOTES, 5 to 2, at 300, 100, 200, 0.
+    TrackVotes u = Checks.with("s0,0,10,2;r1;r2;r3;r4;r5;");
+    int[] high = {300, 100, 200, 0};
+    int[] due = {3, 1, 2, 0};
+    for (int i = 0; i < 4; i++) for (int l = 0; l < 5 - i; l++) u.add(l, high[i], 0);
+    Checks.due("VERTICES", u.many(2), 4);
+    for (int i = 0; i < 4; i++) {
+      Checks.due("A floored", u.track(i, 5), high[i]);
+      Checks.due("its VERTEX", u.track(i, 4), due[i]);
+      Checks.due("PLACE", u.vertex(i, 1), 100 * i);
+    }
+    Checks.text(u, "g100;");
+    Checks.due("one VERTEX", u.many(2), 1);
+    Checks.due("its PLACE", u.vertex(0, 1), 150);
+    Checks.due("its TRACKS", u.vertex(0, 0), 4);
     Checks.says("Its PLACE: the mean of its A floored (floored).");
     place(0, 1, 0);
     place(0, -1, -1);
@@ -679,6 +774,17 @@ public final class VoteEdgesTest {
     x.dead(1);
     int[] dead = {0, 2, 0, 0, 0, 1, 2, 0};
     for (int i = 0; i < 8; i++) Checks.due("thing(" + letters.charAt(i) + ")", x.thing(letters.charAt(i)), dead[i]);
+    Checks.says("THING: a NUMBER (1 to 4 digits) or n TRACKS, h HITS that COUNT");
+    // Three tracks, of 3, 2 and 2 hits, two of them in one vertex; 8 hits, and slopes that make ghosts.
+    TrackVotes y = Checks.with("s0,1,10,2;r1;r2;r3;r4;h0,5,0;h1,5,0;h2,5,0;h0,15,0;h1,15,0;h0,95,0;h1,95,0;h2,995,0;");
+    int[] now = {3, 8, 2, 6, 3, 4, 1, 2};
+    for (int i = 0; i < 8; i++) {
+      char c = letters.charAt(i);
+      Checks.due("thing(" + c + ")", y.thing(c), now[i]);
+      Checks.due(c + "=" + now[i], Checks.yes(y, c + "=" + now[i]), 1);
+      Checks.due(c + "<" + now[i], Checks.yes(y, c + "<" + now[i]), 0);
+      Checks.due(c + ">" + now[i], Checks.yes(y, c + ">" + now[i]), 0);
+    }
   }
 
   // ---- PARTICLES and TRACKS
@@ -721,6 +827,23 @@ public final class VoteEdgesTest {
     Checks.due("four of nobody's", v.track(0, 7), 0);
     Checks.due("most HITS", v.particle(0, 4), 1);
     Checks.due("three of five", v.track(1, 7), 3);
+    // All 12, each with a TRACK of its own, and 8 of nobody's ahead of them.
+    StringBuilder text = new StringBuilder("s0,0,10,2;r1;r2;");
+    for (int p = 0; p < 12; p++) text.append("p").append(5 + 10 * p).append(",0,0;");
+    TrackVotes u = Checks.with(text.toString());
+    for (int i = 1; i <= 8; i++) for (int l = 0; l < 2; l++) u.add(l, -10 * i, 0);
+    for (int p = 0; p < 12; p++) {
+      Checks.due("FOUND of " + p, u.particle(p, 4), 8 + p);
+      Checks.due("PURE", u.track(8 + p, 7), 2);
+      Checks.due("whose", u.track(8 + p, 8), p);
+    }
+    Checks.due("nobody's", u.track(7, 7), 0);
+    Checks.due("FOUND by the BEST NEED", u.bestNeed(1), 12);
+    Checks.due("FOUND of none by it", u.bestNeed(2), 8);
+    for (int l = 0; l < 2; l++) u.add(l, -90, 0);
+    Checks.due("no 21st", u.particle(11, 4), -2);
+    Checks.due("FOUND by the BEST NEED", u.bestNeed(1), 11);
+    Checks.due("FOUND of none by it", u.bestNeed(2), 9);
   }
 
   private static void worth() {
@@ -773,6 +896,26 @@ public final class VoteEdgesTest {
     Checks.due("TRACKS", z.many(0), 1);
     Checks.due("FOUND of both", z.bestNeed(1), 2);
     Checks.due("of none", z.bestNeed(2), 0);
+    // Three particles of 4, 3 and 2 hits that COUNT, one with a single one; nobody's of 3 and of 2.
+    TrackVotes w = Checks.with("s0,0,10,2;r1;r2;r3;r4;p5,0,0;p25,0,0;p45,0,0;p65,0,0;h0,85,0;h1,85,0;h2,85,0;");
+    for (int h : new int[] {4, 8, 9, 12, 13, 14}) w.strike(h);
+    Checks.due("by 2: three less one", w.bestNeed(0), 2);
+    Checks.due("FOUND", w.bestNeed(1), 3);
+    Checks.due("of none", w.bestNeed(2), 1);
+    w.add(0, 105, 0);
+    w.add(1, 105, 0);
+    Checks.due("by 2 three less two, by 3 two less one, by 4 one", w.bestNeed(0), 2);
+    w.add(2, 125, 0);
+    w.add(3, 125, 0);
+    Checks.due("by 2 three less three, by 3 two less one", w.bestNeed(0), 3);
+    Checks.due("FOUND", w.bestNeed(1), 2);
+    Checks.due("of none", w.bestNeed(2), 1);
+    w.add(1, 145, 0);
+    w.add(2, 145, 0);
+    w.add(3, 145, 0);
+    Checks.due("by 3 two less two, by 4 one", w.bestNeed(0), 4);
+    Checks.due("FOUND", w.bestNeed(1), 1);
+    Checks.due("of none", w.bestNeed(2), 0);
     Checks.says("BEST NEED (what 0), PARTICLES FOUND by it (1), TRACKS that are FOUND of none by it (2). NONE for others.");
     Checks.due("bestNeed(-1)", z.bestNeed(-1), -1);
     Checks.due("bestNeed(3)", z.bestNeed(3), -1);
@@ -812,6 +955,14 @@ public final class VoteEdgesTest {
       Checks.due("what " + what, y.cross(0, 1, what), NO_FRACTION);
     }
     Checks.due("nothing", new TrackVotes().cross(0, 1, 0), NO_FRACTION);
+    Checks.says("a fraction in lowest terms (its lower number above 0)");
+    // 10, and 7 and X; 10, and 13 less X: they meet at 3.
+    TrackVotes near = Checks.with("s0,0,100,2;r1;r2;h0,10,0;h1,10,0;h0,8,0;h1,9,0;");
+    cross(near, 0, 1, 3, 1);
+    cross(near, 1, 0, 3, 1);
+    TrackVotes falls = Checks.with("s0,0,100,2;r1;r2;h0,10,0;h1,10,0;h0,9,0;h1,8,0;");
+    cross(falls, 0, 1, 0, 1);
+    cross(falls, 1, 0, 0, 1);
     Checks.says("their lines (without bends)");
     // Both flat but for their bends, -1 and 1: their lines have like slopes.
     TrackVotes u = Checks.with("s1,0,1,3;r100;r200;r300;p0,0,1;p500,0,-1;");
@@ -858,6 +1009,8 @@ public final class VoteEdgesTest {
     }
     x.dead(2);
     Checks.due("alive again", x.missing(0), 1);
+    x.strike(0);
+    Checks.due("the first", x.missing(0), 2);
     Checks.says("NONE: no such TRACK.");
     Checks.due("missing(1)", x.missing(1), -1);
     Checks.due("missing(-1)", x.missing(-1), -1);
@@ -893,6 +1046,20 @@ public final class VoteEdgesTest {
     Checks.due("one nearer", y.nearest(0, 2), 4);
     y.strike(4);
     Checks.due("of like ones the first", y.nearest(0, 2), 2);
+    TrackVotes z = Checks.with("s0,0,1,2;r100;r200;r300;h2,6,0;h2,3,0;h2,8,0;h0,5,0;h1,5,0;h0,9,0;h1,9,0;h2,900,0;");
+    Checks.due("TRACKS", z.many(0), 2);
+    Checks.due("the first HIT of all", z.nearest(0, 2), 0);
+    Checks.due("of the other TRACK", z.nearest(1, 2), 2);
+    Checks.due("no TRACK's HIT, of neither", z.nearest(0, 0), -2);
+    Checks.due("no TRACK's HIT, of neither", z.nearest(1, 1), -2);
+    z.add(0, 100, 0);
+    Checks.due("one of no TRACK", z.nearest(1, 0), 8);
+    for (int i = 9; i < 60; i++) z.add(2, 500, 0);
+    Checks.due("of 60", z.nearest(0, 2), 0);
+    z.strike(0);
+    z.strike(1);
+    z.strike(2);
+    Checks.due("of 60", z.nearest(0, 2), 9);
   }
 
   private static void offset() {
@@ -956,6 +1123,22 @@ public final class VoteEdgesTest {
     window(y, 2, 998, 2);
     window(y, 3, 997, 2);
     window(y, 999, 1, 4);
+    TrackVotes one = Checks.with("r1;h0,0,700;");
+    window(one, 1, 700, 1);
+    window(one, 100, 601, 1);
+    window(one, 700, 1, 1);
+    window(one, 701, 0, 1);
+    // Told from the latest to the first.
+    TrackVotes z = Checks.with("r1;h0,0,901;h0,0,900;h0,0,501;h0,0,500;h0,0,301;h0,0,300;h0,0,100;");
+    window(z, 2, 300, 2);
+    window(z, 1, 100, 1);
+    window(z, 202, 300, 4);
+    z.strike(4);
+    window(z, 2, 500, 2);
+    for (int i = 7; i < 60; i++) z.add(0, 0, i < 33 ? 20 : 800);
+    window(z, 1, 800, 27);
+    window(z, 102, 800, 29);
+    window(z, 101, 800, 28);
     Checks.says("of LAYERS that are alive (FROM, TO aside)");
     Checks.text(x, "w100,100;");
     window(x, 1000, 0, 3);
