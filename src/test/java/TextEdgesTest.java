@@ -154,30 +154,31 @@ public final class TextEdgesTest {
 
   /** The last number that is taken and the first that is not, on both sides. */
   private static void ranges() {
-    Checks.says("a number that can't be (TO below FROM): its first byte, as it ends");
-    range("r", 1, 999, ";");
-    range("h", 0, 1, ",0,0;");
-    range("h0,", -9999, 9999, ",0;");
-    range("h1,0,", 0, 999, ";");
-    range("p", -9999, 9999, ",0,0;");
-    range("p0,", -50, 50, ",0;");
-    range("p0,0,", -5, 5, ";");
-    range("s", 0, 3, ",10,10,3;");
-    range("s1,", 0, 20, ",10,3;");
-    range("s1,10,", 1, 500, ",3;");
-    range("s1,10,10,", 2, 8, ";");
-    range("g", 0, 999, ";");
-    range("w", 0, 999, ",999;");
-    range("w0,", 0, 999, ";");
-    range("q", 1, 9999, ",50;");
-    range("q100,", 0, 9999, ";");
+    range("X (1 to 999", "r", 1, 999, ";");
+    range("h LAYER , Y , TIME", "h", 0, 1, ",0,0;");
+    range("Y (-9999 to 9999)", "h0,", -9999, 9999, ",0;");
+    range("TIME (0 to 999)", "h1,0,", 0, 999, ";");
+    range("START (-9999 to 9999)", "p", -9999, 9999, ",0,0;");
+    range("SLOPE (-50 to 50)", "p0,", -50, 50, ",0;");
+    range("BEND (-5 to 5)", "p0,0,", -5, 5, ";");
+    range("BENDS (0 to 3; 1 at first)", "s", 0, 3, ",10,10,3;");
+    range("SLOPES (0 to 20; 10)", "s1,", 0, 20, ",10,3;");
+    range("WIDTH (1 to 500; 10)", "s1,10,", 1, 500, ",3;");
+    range("NEED (2 to 8; 3)", "s1,10,10,", 2, 8, ";");
+    range("GAP (0 to 999; 20)", "g", 0, 999, ";");
+    range("FROM, TO (TIMES 0 to 999; 0, 999)", "w", 0, 999, ",999;");
+    range("FROM, TO (TIMES 0 to 999; 0, 999)", "w0,", 0, 999, ";");
+    range("SPEED (1 to 9999; 100)", "q", 1, 9999, ",50;");
+    range("LIMIT (0 to 9999; 50)", "q100,", 0, 9999, ";");
   }
 
-  private static void range(String ahead, int least, int most, String behind) {
+  private static void range(String words, String ahead, int least, int most, String behind) {
+    Checks.says(words);
     taken(ahead, least, behind);
     taken(ahead, most, behind);
     for (int n : new int[] {least - 1, most + 1, -9999, 9999}) {
       if ((n >= least && n <= most) || n < -9999 || n > 9999) continue;
+      Checks.says("a number that can't be (TO below FROM): its first byte, as it ends");
       TrackVotes x = rangeScene(ahead);
       Checks.textFault(x, ahead + n + behind, ahead.length());
       Checks.textFault(x, "g7;" + ahead + n + behind, 3 + ahead.length());

@@ -292,6 +292,7 @@ public final class VoteEdgesTest {
     Checks.due("WORK", y.work(), 8 * 287 + 10);
     Checks.text(y, "s0,0,500,2;");
     Checks.due("one CELL alone", y.many(1), 0);
+    Checks.due("no GHOST any more", y.ghost(0, 0), -100000);
     Checks.says("a HIT votes for the CELL k, t, b");
     // Cells that are far apart are not one.
     for (int far : new int[] {1, 64, 127, 128, 129, 256, 512, 1024, 4096, 8192}) {
@@ -301,6 +302,8 @@ public final class VoteEdgesTest {
       Checks.due("those that are", w.many(0), 2);
       Checks.due("the lesser", w.track(0, 2), -far);
       Checks.due("the greater", w.track(1, 2), far);
+      TrackVotes v = Checks.with("s0,0,1,2;r100;r300;h0,0,0;h0," + far + ",0;h0," + -far + ",0;h1,0,0;h1," + far + ",0;h1," + -far + ",0;");
+      for (int i = 0; i < 3; i++) Checks.due("all three", v.track(i, 2), (i - 1) * far);
     }
   }
 
@@ -353,6 +356,22 @@ public final class VoteEdgesTest {
     z.need(3);
     Checks.due("by a greater NEED", z.hit(3, 5), -2);
     Checks.due("HITS of no TRACK", z.many(3), 5);
+    // One TRACK by NEED 3; by NEED 2 three more.
+    TrackVotes w = Checks.with(FLAT + "r400;h0,5,0;h1,5,0;h2,5,0;h0,15,0;h1,15,0;h0,25,0;h1,25,0;h0,35,0;h1,35,0;");
+    Checks.due("by NEED 2", w.many(0), 4);
+    for (int h = 3; h < 9; h++) Checks.due("hit(" + h + ", 5)", w.hit(h, 5), (h - 1) / 2);
+    w.need(3);
+    Checks.due("by NEED 3", w.many(0), 1);
+    for (int h = 3; h < 9; h++) Checks.due("hit(" + h + ", 5)", w.hit(h, 5), -2);
+    for (int i = 1; i < 4; i++) {
+      Checks.due("no TRACK " + i, w.track(i, 0), -100000);
+      Checks.due("no TRACK " + i, w.of(i, 0), -1);
+      Checks.due("no TRACK " + i, w.fit(i, 1), NO_FRACTION);
+      Checks.due("no TRACK " + i, w.cross(0, i, 0), NO_FRACTION);
+      Checks.due("no TRACK " + i, w.predicted(i, 0), -100000);
+      Checks.due("no TRACK " + i, w.missing(i), -1);
+      Checks.due("no TRACK " + i, w.nearest(i, 0), -1);
+    }
     Checks.says("the CELL with most VOTES (NEED at least)");
     Checks.due("nothing", new TrackVotes().many(0), 0);
   }
@@ -484,6 +503,8 @@ public final class VoteEdgesTest {
       Checks.due("the lesser b", w.ghost(i, 2), i % 2);
       Checks.due("VOTES", w.ghost(i, 3), 2);
     }
+    TrackVotes told = Checks.with("s1,1,500,2;r1;r2;h0,750,0;h1,750,0;h0,-250,0;h1,-250,0;h0,250,0;h1,250,0;");
+    for (int i = 0; i < 12; i++) Checks.due("the lesser b, told later", told.ghost(i, 2), i % 3 - 1);
     Checks.says("the first 20");
     // 7 slopes join three, 35 more two: 6 and 35 ghosts.
     TrackVotes u = Checks.with("s0,3,500,2;r1;r2;r3;h0,250,0;h1,250,0;h2,250,0;h0,750,0;h1,750,0;h1,1750,0;h0,1750,0;h1,1250,0;h0,1250,0;h0,-250,0;h1,-250,0;h0,2250,0;h1,2250,0;");
