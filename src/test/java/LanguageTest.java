@@ -1,4 +1,6 @@
 import java.io.IOException;
+import java.io.PrintWriter;
+import java.io.StringWriter;
 import java.lang.reflect.Constructor;
 import java.lang.reflect.Field;
 import java.lang.reflect.Method;
@@ -8,9 +10,14 @@ import java.nio.file.Files;
 import java.nio.file.Path;
 import java.util.ArrayList;
 import java.util.Arrays;
+import java.util.HashMap;
 import java.util.List;
+import java.util.Map;
+import java.util.Optional;
 import java.util.Set;
+import java.util.TreeMap;
 import java.util.TreeSet;
+import java.util.spi.ToolProvider;
 import java.util.regex.Matcher;
 import java.util.regex.Pattern;
 
@@ -32,6 +39,7 @@ public final class LanguageTest {
     classes();
     words(source);
     methods(source);
+    depths();
     System.out.println(wrong == 0 ? "LanguageTest: the rules are kept" : "LanguageTest: " + wrong + " breaches");
     if (wrong != 0) System.exit(1);
   }
@@ -126,5 +134,56 @@ public final class LanguageTest {
       while (end < lines.length && !lines[end].equals(m.group(1) + "}")) end++;
       rule(11, end - i < 60, "the method at line " + (i + 1) + " has " + (end - i) + " lines");
     }
+  }
+
+  /** Rule 11: calls that are no recursion go at most eight deep, the library's counted. */
+  private static void depths() {
+    Map<String, Set<String>> calls = calls();
+    Map<String, Integer> depth = new HashMap<>();
+    // Each round lets the calls be known one level deeper; a cycle weighs nothing, so it settles.
+    for (int round = 0; round < 40; round++) {
+      for (String method : calls.keySet()) {
+        int deepest = 0;
+        for (String called : calls.get(method)) deepest = Math.max(deepest, depth.getOrDefault(called, 1));
+        depth.put(method, (reaches(calls, method, method) ? 0 : 1) + deepest);
+      }
+    }
+    for (String method : calls.keySet()) rule(11, depth.get(method) <= 8, method + " calls " + depth.get(method) + " deep");
+  }
+
+  private static boolean reaches(Map<String, Set<String>> calls, String from, String to) {
+    Set<String> seen = new TreeSet<>();
+    List<String> next = new ArrayList<>(List.of(from));
+    while (!next.isEmpty()) {
+      for (String called : calls.getOrDefault(next.remove(next.size() - 1), Set.of())) {
+        if (called.equals(to)) return true;
+        if (seen.add(called)) next.add(called);
+      }
+    }
+    return false;
+  }
+
+  /** Who calls whom, as javap tells it; nothing where there is no javap. */
+  private static Map<String, Set<String>> calls() {
+    Map<String, Set<String>> calls = new TreeMap<>();
+    Optional<ToolProvider> javap = ToolProvider.findFirst("javap");
+    if (javap.isEmpty()) return calls;
+    for (Class<?> c : all()) {
+      StringWriter out = new StringWriter();
+      javap.get().run(new PrintWriter(out), new PrintWriter(out), "-c", "-p", "-cp", System.getProperty("java.class.path"), c.getName());
+      String method = "";
+      for (String line : out.toString().split("\n")) {
+        Matcher head = Pattern.compile("^  \\S.*?([\\w$]+)\\(.*\\);$").matcher(line);
+        Matcher call = Pattern.compile("// (?:Interface)?Method (?:([\\w/$]+)\\.)?\"?(<?\\w+>?)\"?:").matcher(line);
+        if (head.find()) {
+          method = c.getName() + "." + (head.group(1).equals(c.getName()) ? "<init>" : head.group(1));
+          calls.put(method, new TreeSet<>());
+        } else if (call.find() && calls.containsKey(method)) {
+          calls.get(method).add((call.group(1) == null ? c.getName() : call.group(1)) + "." + call.group(2));
+        }
+      }
+    }
+    rule(11, calls.size() > 100, "javap tells of " + calls.size() + " methods alone");
+    return calls;
   }
 }
